@@ -959,6 +959,57 @@ public final class PromiseTest {
     Check.same("length() behind it", x.length(), 12);
   }
 
+  /** Each LUCK there is, against the sums of what chance() answers. */
+  private static void eachLuck34() {
+    for (int number = 1; number <= 1000; number += 37) {
+      Canticle x = null;
+      long[] sums = new long[3];
+      for (int luck = 0; luck < 10000; luck++) {
+        if (luck % 200 == 0) {
+          x = small();
+          x.setWay(luck / 200 % 5, number);
+          sums[0] = x.chance(0);
+          sums[1] = sums[0] + x.chance(1);
+          sums[2] = sums[1] + x.chance(2);
+        }
+        x.setLuck(luck);
+        long drawn = (luck * 4621 + 2777) % 10000 * sums[2] / 10000;
+        Check.same("wouldDraw() by LUCK " + luck, x.wouldDraw(),
+            drawn < sums[0] ? 0 : drawn < sums[1] ? 1 : 2);
+      }
+    }
+  }
+
+  /** Sums of 999999 draw one less than 1000000 would, which tells where a chance is whole hundreds. */
+  private static void sumsAreExact34() {
+    int found = 0;
+    for (int number = 1; number <= 1000; number++) {
+      Canticle x = small();
+      for (int way = 0; way <= 4; way++) {
+        x.setWay(way, number);
+        int first = x.chance(0);
+        if (first % 100 > 0 || first == 0 || first + x.chance(1) + x.chance(2) != 999999) {
+          continue;
+        }
+        found++;
+        x.setLuck(luckAhead(first / 100));
+        Check.same("wouldDraw() of way " + way + ", " + number, x.wouldDraw(), 0);
+        x.setLuck(luckAhead(first / 100 + 1));
+        Check.same("wouldDraw() of way " + way + ", " + number, x.wouldDraw(), 1);
+      }
+    }
+    Check.holds("such chances were found", found > 0);
+  }
+
+  private static int luckAhead(int luck) {
+    for (int before = 0; before < 10000; before++) {
+      if ((before * 4621 + 2777) % 10000 == luck) {
+        return before;
+      }
+    }
+    return 0;
+  }
+
   private static void digest35() {
     Check.same("digest() of a new one", new Canticle().digest(), digestOf(new Canticle()));
     Canticle x = small();
@@ -1043,6 +1094,8 @@ public final class PromiseTest {
     scoreLearned32();
     scoreBy33();
     wouldDraw34();
+    eachLuck34();
+    sumsAreExact34();
     digest35();
     Check.end("PromiseTest");
   }
