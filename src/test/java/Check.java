@@ -10,6 +10,7 @@ final class Check {
 
   private static int wrong = 0;
   private static int right = 0;
+  private static String about = "";
 
   private Check() {}
 
@@ -32,8 +33,17 @@ final class Check {
   static void fail(String what) {
     wrong++;
     if (wrong <= 50) {
-      System.out.println(what);
+      System.out.println(about + what);
     }
+  }
+
+  /** What is checked from now on is about this; a check that fails says so. */
+  static void about(String text) {
+    about = text;
+  }
+
+  static int made() {
+    return right + wrong;
   }
 
   /** The answer as a text; an exception as throws. and its exact class. */

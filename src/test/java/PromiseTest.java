@@ -1,68 +1,8 @@
-import java.util.ArrayList;
 import java.util.Arrays;
 import java.util.List;
 
 /** Each promise of the document: ordinary inputs, the edges it names, wrong inputs. */
-public final class PromiseTest {
-  private static final int MIN = Integer.MIN_VALUE;
-  private static final int MAX = Integer.MAX_VALUE;
-
-  private static Canticle withWords(int many) {
-    Canticle x = new Canticle();
-    for (int i = 0; i < many; i++) {
-      x.addWord();
-    }
-    return x;
-  }
-
-  private static void speak(Canticle x, int... words) {
-    x.hush();
-    for (int w : words) {
-      x.say(w);
-    }
-  }
-
-  private static void teach(Canticle x, int times, int... words) {
-    speak(x, words);
-    x.learn(times);
-  }
-
-  /** "0 1" learned 3 times and "0" once, of the WORDS 0 and 1; the SENTENCE is "0". */
-  private static Canticle small() {
-    Canticle x = withWords(2);
-    teach(x, 3, 0, 1);
-    teach(x, 1, 0);
-    return x;
-  }
-
-  private static void row(String what, Canticle x, int... due) {
-    Check.same(what + " length", x.length(), due.length);
-    for (int at = 0; at < Math.min(due.length, x.length()); at++) {
-      Check.same(what + " at " + at, x.wordAt(at), due[at]);
-    }
-  }
-
-  private static void chancesAre(String what, Canticle x, int... due) {
-    for (int w = 0; w < due.length; w++) {
-      Check.same(what + " chance(" + w + ")", x.chance(w), due[w]);
-    }
-  }
-
-  private static void entriesAre(String what, Canticle x, int order, int[]... due) {
-    Check.same(what + " entries(" + order + ")", x.entries(order), due.length);
-    for (int e = 0; e < Math.min(due.length, x.entries(order)); e++) {
-      for (int at = 0; at < order; at++) {
-        Check.same(what + " entryAt(" + order + ", " + e + ", " + at + ")",
-            x.entryAt(order, e, at), due[e][at]);
-      }
-      Check.same(what + " countOf(" + order + ", " + e + ")", x.countOf(order, e), due[e][order]);
-    }
-  }
-
-  private static int[] of(int... numbers) {
-    return numbers;
-  }
-
+public final class PromiseTest extends Scenes {
   private static void newObject1() {
     Canticle x = new Canticle();
     Check.same("new words()", x.words(), 0);
@@ -190,56 +130,11 @@ public final class PromiseTest {
         of(0, 0, 0, 0, 2), of(0, 0, 0, 1, 2));
   }
 
-  /** SENTENCES that make just 800 ENTRIES of the order 4; the last row makes just one more. */
-  private static List<List<Integer>> fillingRows() {
-    NaiveModel y = new NaiveModel();
-    while (y.v < 12) {
-      y.addWord();
-    }
-    y.setOrder(4);
-    List<List<Integer>> rows = new ArrayList<>();
-    int seed = 7;
-    for (int turn = 0; turn < 2000000; turn++) {
-      boolean full = y.counts.size() == 800;
-      y.hush();
-      int size = y.counts.size() < 760 ? 12 : 1 + turn % 12;
-      List<Integer> known = rows.isEmpty() ? List.of() : rows.get(turn % rows.size());
-      for (int at = 0; at < size; at++) {
-        seed = (seed * 1103515245 + 12345) & MAX;
-        int w = seed >> 16;
-        y.say(at < known.size() && w % 9 > 0 && !known.isEmpty() ? known.get(at) : w % 12);
-      }
-      int before = y.counts.size();
-      NaiveModel tried = new NaiveModel();
-      tried.v = y.v;
-      tried.n = y.n;
-      tried.sentence = y.sentence;
-      tried.counts.putAll(y.counts);
-      tried.addTo(tried.counts, 1);
-      int more = tried.counts.size() - before;
-      if (more > 0 && (full ? more == 1 : before + more <= 800)) {
-        rows.add(new ArrayList<>(y.sentence));
-        if (full) {
-          return rows;
-        }
-        y.learn(1);
-      }
-    }
-    throw new IllegalStateException("no such rows were found");
-  }
-
   private static void learnUpToTheLimit6() {
-    List<List<Integer>> rows = fillingRows();
-    Canticle x = withWords(12);
-    x.setOrder(4);
-    int learned = 0;
-    for (List<Integer> row : rows.subList(0, rows.size() - 1)) {
-      speak(x, row.stream().mapToInt(i -> i).toArray());
-      learned = x.learn(1);
-    }
-    Check.same("ENTRIES at the limit", learned, 800);
+    Canticle x = full();
+    Check.same("ENTRIES at the limit", entriesInAll(x), 800);
     Check.same("learn(5) of what is known, at the limit", x.learn(5), 800);
-    speak(x, rows.get(rows.size() - 1).stream().mapToInt(i -> i).toArray());
+    speak(x, 1, 4);
     x.setWay(4, 300);
     Check.refused(x, "learn(1) of one ENTRY more", Check.STATE, () -> x.learn(1));
     Check.refused(x, "learn(100) of one ENTRY more", Check.STATE, () -> x.learn(100));
